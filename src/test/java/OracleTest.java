@@ -73,6 +73,8 @@ public final class OracleTest {
             tellRule();
         } else if (luck == 2) {
             seeBest();
+        } else if (luck == 7) {
+            tellEvents();
         } else if (luck < 6) {
             ask("quote", below(2), below(5));
             ask("trade", below(2));
@@ -168,6 +170,22 @@ public final class OracleTest {
         }
         ask("fits", 0);
         ask("fits", 1);
+    }
+
+    /** RIVALS leave THE STREET, and more. */
+    private void tellEvents() {
+        ask("event", -1, 0);
+        ask("after");
+        long street = oracle.answer("told", new long[] {6});
+        for (int place = 0; place < 4; place++) {
+            ask("lay", street, place, below(8));
+        }
+        ask("event", 3, below(4));
+        for (int i = below(3); i > 0; i--) {
+            int what = below(4);
+            ask("event", what, what == 3 ? below(4) : 1 + below(8));
+        }
+        ask("after");
     }
 
     private void ask(String call, long... g) {

@@ -145,12 +145,29 @@ public final class RuleTest {
         x.rule(-4, 6, 0);
         DUE.is("16: LIMIT forbids it", x.worth(4, 1, 0), -32000000);
         DUE.is("16: LIMIT forbids it", x.worth(-4, 1, 0), -32000000);
+        worthOfRounds();
         DUE.is("16: s", x.worth(5, 1, 0), NO);
         DUE.is("16: s", x.worth(-5, 1, 0), NO);
         DUE.is("16: t", x.worth(0, 9, 0), NO);
         DUE.is("16: t", x.worth(0, -1, 0), NO);
         DUE.is("16: what", x.worth(0, 0, 2), NO);
         DUE.is("16: what", x.worth(0, 0, -1), NO);
+    }
+
+    private static void worthOfRounds() {
+        QuoteMind buyer = onlyAt(1, 1000, 6, 0);
+        buyer.set(3, 1);
+        buyer.rule(0, 1, 6);
+        buyer.rule(1, 1, 6);
+        // Two come for 1 million each; 2 of them are fined 4 million.
+        DUE.is("16: two rounds of buying", buyer.worth(0, 2, 0), -2000000);
+        DUE.is("16: from 1 on", buyer.worth(1, 2, 0), -3000000);
+        QuoteMind seller = onlyAt(6, 0, 2, 1000);
+        seller.set(3, 3);
+        seller.rule(0, 6, 2);
+        seller.rule(-1, 6, 2);
+        DUE.is("16: two rounds of selling", seller.worth(0, 2, 0), -12000000 + 4000000);
+        DUE.is("16: loss", seller.worth(0, 2, 1), seller.value(0, 2) + 8000000);
     }
 
     private static void promise18() {
@@ -191,10 +208,38 @@ public final class RuleTest {
         x.set(3, 0);
         DUE.is("19: too far", x.meeting(0, 3), 0);
         DUE.holds("19: not too far", x.meeting(0, 4) > 0 && x.meeting(0, 4) < one);
+        meetingOfRounds();
         DUE.is("19: s", x.meeting(5, 0), NO);
         DUE.is("19: s", x.meeting(-5, 0), NO);
         DUE.is("19: t", x.meeting(0, 9), NO);
         DUE.is("19: t", x.meeting(0, -1), NO);
+    }
+
+    /** BEST is 5 and 4 wherever LIMIT lets it, there being no FINE. */
+    private static void meetingOfRounds() {
+        QuoteMind x = onlyAt(5, 300, 4, 200);
+        x.set(1, 2);
+        x.set(3, 0);
+        double u = 300.0 / 1000.0;
+        double v = 200.0 / 1000.0;
+        double less = 0.0;
+        double same = 0.0;
+        double more = 0.0;
+        for (int t = 0; t <= 8; t++) {
+            DUE.is("19: at -1", x.meeting(-1, t), Double.doubleToLongBits(less));
+            DUE.is("19: at 0", x.meeting(0, t), Double.doubleToLongBits(same));
+            DUE.is("19: at 1", x.meeting(1, t), Double.doubleToLongBits(more));
+            double lessThen = met(u, v, less, same, 1.0);
+            double sameThen = met(u, v, same, more, less);
+            more = met(u, v, more, 1.0, same);
+            less = lessThen;
+            same = sameThen;
+        }
+    }
+
+    private static double met(double u, double v, double same, double more, double less) {
+        return ((u * v) * same) + ((u * (1.0 - v)) * more) + (((1.0 - u) * v) * less)
+                + (((1.0 - u) * (1.0 - v)) * same);
     }
 
     private static void promise20() {

@@ -8,8 +8,10 @@ public final class SeenTest {
     public static void main(String[] args) {
         promise26();
         promise27();
+        promise27ByStreet();
         promise28();
         promise29();
+        promise29Places();
         promise30();
         DUE.end();
     }
@@ -66,12 +68,37 @@ public final class SeenTest {
         // Without a FINE an ASK of 0 is worth nothing; with any, a trade back is.
         DUE.is("27: within LIMIT", x.fits(0), 20);
         DUE.is("27: within LIMIT", x.fits(1), 1);
+        x.set(1, 4);
+        DUE.is("27: beyond LIMIT again", x.fits(0), 0);
+        x.see(0, -1, 0);
+        x.see(0, 0, 0);
         x.set(2, 0);
         DUE.is("27: no rounds", x.fits(0), 0);
         x.see(0, -1, 0);
         DUE.is("27: no rounds, nothing seen", x.fits(0), 21);
         DUE.is("27: what", x.fits(2), NONE);
         DUE.is("27: what", x.fits(-1), NONE);
+    }
+
+    private static void promise27ByStreet() {
+        QuoteMind x = new QuoteMind();
+        QuoteMind y = new QuoteMind();
+        x.rival(0, 0, 6);
+        y.rival(0, 0, 6);
+        for (int place = 0; place < 4; place++) {
+            x.lay(0, place, 0);
+            y.lay(0, place, 0);
+            x.see(0, -1, 0);
+            x.see(0, x.best(0, 4, 0), x.best(0, 4, 1));
+            int many = 0;
+            for (int fine = 0; fine <= 20; fine++) {
+                y.set(3, fine);
+                if (y.best(0, 4, 0) == x.best(0, 4, 0) && y.best(0, 4, 1) == x.best(0, 4, 1)) {
+                    many++;
+                }
+            }
+            DUE.is("27: by THE STREET", x.fits(0), many);
+        }
     }
 
     private static void promise28() {
@@ -124,6 +151,33 @@ public final class SeenTest {
         DUE.is("29: no rounds", x.after(), 0);
     }
 
+    private static void promise29Places() {
+        for (int place = 0; place < 4; place++) {
+            QuoteMind x = new QuoteMind();
+            x.rival(0, 0, 0);
+            x.lay(0, place, 0);
+            long with = x.value(0, 4);
+            DUE.is("29: nothing happens", x.after(), with);
+            x.lay(0, place, -1);
+            long without = x.value(0, 4);
+            DUE.holds("29: a RIVAL matters", with != without);
+            x.lay(0, place, 0);
+            for (int gone = 0; gone < 4; gone++) {
+                x.event(3, gone);
+                DUE.is("29: place " + gone + " of a RIVAL at " + place, x.after(), gone == place ? without : with);
+                x.event(-1, 0);
+                DUE.is("29: nothing any more", x.after(), with);
+            }
+            x.event(0, 50);
+            x.event(-1, 0);
+            DUE.is("29: nothing any more", x.after(), with);
+            for (int gone = 0; gone < 8; gone++) {
+                x.event(3, gone < 7 ? (place + 1) % 4 : place);
+            }
+            DUE.is("29: the eighth", x.after(), without);
+        }
+    }
+
     private static void promise30() {
         QuoteMind x = new QuoteMind();
         DUE.is("30: 1200 by 1000", x.taken(0, 0, 0), 6);
@@ -142,6 +196,10 @@ public final class SeenTest {
         x.rival(0, 0, 0);
         x.lay(0, 0, 0);
         DUE.is("30: by CHANCES", x.taken(0, 0, 0), 0);
+        x.odds(0, 1, 10);
+        x.odds(1, 1, 20);
+        DUE.is("30: halves, (5 + 10) by 1000", x.taken(1, 1, 0), 3);
+        DUE.is("30: halves, (5 + 10) by 1000", x.taken(1, 1, 1), 200);
         DUE.is("30: b", x.taken(7, 0, 0), NO);
         DUE.is("30: b", x.taken(-1, 0, 0), NO);
         DUE.is("30: a", x.taken(0, 7, 0), NO);

@@ -75,7 +75,7 @@ public final class TapesTest {
         x.rival(1, 0, 0);
         x.lay(0, 1, 0);
         x.lay(1, by, 0);
-        x.street(1);
+        x.street(by == 0 ? 1 : 0);
         x.rule(-8, by, 1);
         x.rule(8, 2, by);
         x.quote(0, 1 + by);
@@ -83,9 +83,11 @@ public final class TapesTest {
         x.trade(1);
         x.trade(1);
         x.trade(0);
-        x.see(0, 1, by);
-        x.event(0, by);
-        x.event(3, 1);
+        x.see(0, -1, 0);
+        x.see(by, x.best(by, 1, 0), x.best(by, 1, 1));
+        x.event(-1, 0);
+        x.event(by == 0 ? 0 : 2, by);
+        x.event(3, by);
     }
 
     private static final String[] ASKED = {"told", "told", "told", "told", "told", "told", "told", "told", "told", "told",
@@ -162,6 +164,7 @@ public final class TapesTest {
         DUE.is("35: a row of none is there", x.item(1, 0, 0), PLACE);
         DUE.is("35: nothing, n does not matter", x.tape(1, -1, 99), 1);
         DUE.is("35: nothing", x.item(1, 0, 0), NOTHING);
+        DUE.is("35: nothing", x.peek(1, 0), NO);
         DUE.is("35: nothing, n does not matter", x.tape(1, -1, -99), 1);
         DUE.is("35: tape", x.tape(6, 9, 0), NONE);
         DUE.is("35: tape", x.tape(-1, 0, 0), NONE);

@@ -133,10 +133,10 @@ public final class TruthTest {
     private static void promise24Faults() {
         String twelve = "hit;hit;hit;hit;hit;hit;hit;hit;hit;hit;hit;hit";
         String[] texts = {"", "1", "Bid1", ";", " hit", "bid1;", "bid1; hit", "sell", "bid1;hits", "bi1", "bid", "bid12",
-            "ask", "askx", "bid12345", "hit1", "lift0", "pull9999", "hit;lift1", "fair", "fair1", "fair12", "fair12345",
+            "ask", "askx", "bid12345", "ask12", "pull1", "hit1", "lift0", "pull9999", "hit;lift1", "fair", "fair1", "fair12", "fair12345",
             "street", "street12", "bid1 ", "bid1x", "fair1234x", "hit,lift", "hit;;hit", "bid1;Hit", twelve + ";",
             twelve + ";hit", twelve + ",", "z", "{", "`", "bid:", "bid/", "street1;fair12;sell"};
-        int[] faults = {0, 0, 0, 0, 0, 5, 5, 0, 5, 0, 3, 3, 3, 0, 3, 3, 4, 4, 8, 4, 4, 4, 8, 6, 6, 4, 4, 8, 3, 4, 5, 47,
+        int[] faults = {0, 0, 0, 0, 0, 5, 5, 0, 5, 0, 3, 3, 3, 0, 3, 3, 4, 3, 4, 4, 8, 4, 4, 4, 8, 6, 6, 4, 4, 8, 3, 4, 5, 47,
             47, 47, 0, 0, 0, 3, 3, 12};
         DUE.is("24: as many faults", faults.length, texts.length);
         for (int i = 0; i < texts.length; i++) {
@@ -167,6 +167,10 @@ public final class TruthTest {
         DUE.is("24: twelve", read(x, "bid1;hit;lift;hit;lift;hit;lift;hit;lift;hit;lift;hit"), 12);
         DUE.is("24: up to LIMIT", read(x, "hit;hit;hit;hit;hit;hit"), 4);
         DUE.is("24: stock", x.told(10), 4);
+        DUE.is("24: what was read before is over", read(x, "hit"), 0);
+        DUE.is("24: what was read before is over", read(x, "lift;lift"), 2);
+        DUE.is("24: what was read before is over", read(x, "ask3"), 1);
+        DUE.is("24: stock", x.told(10), 2);
         DUE.is("24: all hundred", read(x, "street0;street1;street2;street0;street1;street2;street0;street1;street2;"
                 + "street0;fair0000;fair1234;"), -10 - 97);
     }
