@@ -115,6 +115,8 @@ public final class MarketTest {
         DUE.is("5: x ahead of full", x.rival(0, 7, 0), BAD);
         DUE.is("5: kind ahead of full", x.rival(4, 0, 0), NONE);
         DUE.is("5: told", x.told(7), 8);
+        DUE.is("6: rival", x.theirs(8, 0, 0), NONE);
+        DUE.is("7: rival", x.lay(0, 0, 8), NONE);
     }
 
     private static void promise6() {

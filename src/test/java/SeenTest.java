@@ -8,6 +8,7 @@ public final class SeenTest {
     public static void main(String[] args) {
         promise26();
         promise27();
+        promise27Rows();
         promise27ByStreet();
         promise28();
         promise29();
@@ -80,6 +81,26 @@ public final class SeenTest {
         DUE.is("27: what", x.fits(-1), NONE);
     }
 
+    private static void promise27Rows() {
+        QuoteMind x = new QuoteMind();
+        for (int i = 0; i < 5; i++) {
+            x.see(8, 6, 0);
+        }
+        DUE.is("27: five beyond LIMIT", x.fits(0), 0);
+        x.see(0, -1, 0);
+        x.see(0, x.best(0, 4, 0), x.best(0, 4, 1));
+        DUE.holds("27: what was seen before is over", x.fits(0) > 0);
+        for (int i = 0; i < 4; i++) {
+            x.see(0, x.best(0, 4, 0), x.best(0, 4, 1));
+        }
+        DUE.holds("27: five of the same", x.fits(0) > 0);
+        x.see(0, -1, 0);
+        for (int i = 0; i < 5; i++) {
+            x.see(0, x.best(0, 4, 0), i < 4 ? x.best(0, 4, 1) : 6);
+        }
+        DUE.is("27: the fifth is not so", x.fits(0), 0);
+    }
+
     private static void promise27ByStreet() {
         QuoteMind x = new QuoteMind();
         QuoteMind y = new QuoteMind();
@@ -123,6 +144,15 @@ public final class SeenTest {
     private static void promise29() {
         QuoteMind x = new QuoteMind();
         DUE.is("29: nothing happens", x.after(), x.value(0, 4));
+        int[] setting = {3, 1, 2};
+        for (int what = 0; what < 3; what++) {
+            QuoteMind one = new QuoteMind();
+            x.event(-1, 0);
+            x.event(what, 1);
+            one.set(setting[what], 1);
+            DUE.is("29: one event", x.after(), one.value(0, (int) one.told(2)));
+        }
+        x.event(-1, 0);
         x.rival(1, 0, 0);
         x.lay(0, 1, 0);
         x.lay(0, 2, 0);
