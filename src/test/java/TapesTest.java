@@ -127,6 +127,11 @@ public final class TapesTest {
             DUE.is("33: tapes stay", x.peek(0, 0), 5 + again);
             DUE.is("33: the text stays", x.count(2), 1);
         }
+        x.see(0, -1, 0);
+        x.event(-1, 0);
+        DUE.is("33: undo", x.undo(), 1);
+        DUE.is("33: SEEN", x.count(0), 1);
+        DUE.is("33: EVENTS", x.count(1), 2);
         DUE.is("33: a RIVAL that came later is gone", x.theirs(1, 0, 0), NONE);
         DUE.is("33: a number comes again", x.rival(3, 1, 1), 1);
         DUE.is("33: another kind", x.theirs(1, 0, 5), 3);
