@@ -152,7 +152,8 @@ public final class EdgesOfPromisesTest {
                 "worth 0 4 1 = 181478");
         edge("NO: s beyond LIMIT, t (0 .. 8), what", "worth 5 0 0 = NO", "worth -5 0 0 = NO", "worth 0 -1 0 = NO",
                 "worth 0 9 0 = NO", "worth 0 0 -1 = NO", "worth 0 0 2 = NO", "worth 4 0 0 = -32000000", "worth 0 8 0 = 0",
-                "worth min max 0 = NO");
+                "worth min max 0 = NO", "set 1 8", "worth 8 8 0 = -128000000", "worth -8 8 0 = -128000000", "worth 9 0 0 = NO",
+                "worth -9 0 1 = NO", "worth 8 0 1 = 0");
         promise(17);
         edge("Of THE RULE: what 0 BID, 1 ASK of a STOCK (-8 .. 8)", "rule -8 0 5", "rule 8 4 3", "ruled -8 0 = 0",
                 "ruled -8 1 = 5", "ruled 8 0 = 4", "ruled 8 1 = 3", "set 1 1", "ruled 8 0 = 4");
@@ -172,7 +173,8 @@ public final class EdgesOfPromisesTest {
         edge("MEETING's bits", "meeting 4 0 = " + ONE, "meeting 0 0 = 0", "meeting 0 3 = 0", "meeting 3 1");
         edge("NO: s beyond LIMIT, t (0 .. 8)", "meeting 5 0 = NO", "meeting -5 0 = NO", "meeting 0 -1 = NO",
                 "meeting 0 9 = NO", "meeting 4 8 = " + ONE, "meeting min 0 = NO", "set 1 1", "meeting 2 0 = NO",
-                "meeting 1 8 = " + ONE);
+                "meeting 1 8 = " + ONE, "set 1 8", "meeting 8 8 = " + ONE, "meeting -8 0 = " + ONE, "meeting 9 8 = NO",
+                "meeting -9 0 = NO", "meeting 7 0 = 0", "meeting 0 7 = 0");
         promise(20);
         edge("MIDDLE (what 0), SPREAD (1): bits", "middle 0 = " + Double.doubleToLongBits(1000.0), "middle 1 = 0",
                 "quote 0 2", "trade 0", "middle 0 = " + Double.doubleToLongBits(999.5), "middle 1 = " + ONE);
@@ -229,7 +231,8 @@ public final class EdgesOfPromisesTest {
         edge("What is SEEN comes: how many there are", "see -8 0 6 = 1", "see 8 6 0 = 2", "see 0 3 3 = 3", "see 0 3 3 = 4",
                 "see 0 3 3 = 5", "count 0 = 5");
         edge("(b -1: none then, 0, whatever the others are)", "see 0 -1 0 = 0", "see 0 0 0 = 1", "see 9 -1 7 = 0",
-                "count 0 = 0", "5 x see 0 0 0", "see min -1 max = 0", "see 0 0 0 = 1");
+                "count 0 = 0", "5 x see 0 0 0", "see min -1 max = 0", "see 0 0 0 = 1", "see 0 -1 0", "5 x see 8 6 0", "see 0 -1 0",
+                "set 2 1", "fits 0 = 21", "see 4 6 0 = 1", "fits 0 = 20", "fits 1 = 1");
         edge("BAD: s (-8 .. 8), b, a (0 .. 6)", "see 9 0 0 = -2", "see -9 0 0 = -2", "see 0 -2 0 = -2", "see 0 7 0 = -2",
                 "see 0 0 -1 = -2", "see 0 0 7 = -2", "see min 0 0 = -2", "see 0 min 0 = -2", "see 0 0 max = -2",
                 "count 0 = 0");
@@ -247,7 +250,9 @@ public final class EdgesOfPromisesTest {
         edge("A row comes to EVENTS: how many there are", "event 0 0 = 1", "event 0 99 = 2", "event 1 1 = 3", "event 1 8 = 4",
                 "event 2 0 = 5", "event 2 8 = 6", "event 3 0 = 7", "event 3 3 = 8", "count 1 = 8");
         edge("(what -1: none then, 0, whatever the other is)", "event -1 0 = 0", "event 0 5 = 1", "event -1 max = 0",
-                "count 1 = 0", "8 x event 0 5", "event -1 -1 = 0", "event 0 5 = 1");
+                "count 1 = 0", "8 x event 0 5", "event -1 -1 = 0", "event 0 5 = 1", "event -1 0", "idle",
+                "odds 0 5 1000", "set 2 1", "rival 1 0 0", "lay 0 1 0", "8 x event 3 1", "after = 3000000", "event -1 0",
+                "after = 1500000", "event 0 0 = 1", "after = 2500000");
         edge("NONE: what", "event -2 0 = -1", "event 4 0 = -1", "event 4 100 = -1", "event min 0 = -1", "event max 0 = -1");
         edge("BAD: n (as it may be; 0 .. 3 by 3)", "event 0 -1 = -2", "event 0 100 = -2", "event 1 0 = -2", "event 1 9 = -2",
                 "event 2 -1 = -2", "event 2 9 = -2", "event 3 -1 = -2", "event 3 4 = -2", "event 3 max = -2", "count 1 = 0");

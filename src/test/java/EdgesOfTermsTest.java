@@ -383,7 +383,9 @@ public final class EdgesOfTermsTest {
                 "see 4 6 0 = 1", "fits 0 = 20", "fits 1 = 1", "see 4 6 2 = 2", "fits 0 = 0", "see 0 -1 0", "see 4 6 2 = 1",
                 "fits 0 = 1", "fits 1 = 0", "set 3 99", "fits 0 = 1");
         edge("is so for all SEEN", "set 2 1", "4 x see 4 6 0", "see 4 6 0 = 5", "fits 0 = 20", "see 0 -1 0", "4 x see 4 6 0",
-                "see 4 6 1 = 5", "fits 0 = 0", "see 0 -1 0", "4 x see 4 6 0", "see 5 6 0 = 5", "fits 0 = 0");
+                "see 4 6 1 = 5", "fits 0 = 0", "see 0 -1 0", "4 x see 4 6 0", "see 5 6 0 = 5", "fits 0 = 0", "see 0 -1 0", "4 x see 4 6 0",
+                "see 5 0 0 = 5", "fits 0 = 0", "see 0 -1 0", "set 1 8", "best 8 1 0 = 6", "see 8 6 0", "fits 0 = 20", "set 1 7",
+                "fits 0 = 0", "fits 1 = -5");
         edge("by which BEST with ROUNDS to go", "rival 0 6 1", "set 2 1", "see 4 6 1", "fits 0 = 0", "lay 0 0 0", "fits 0 = 1",
                 "fits 1 = 0", "lay 0 0 -1", "fits 0 = 0", "lay 0 3 0", "fits 0 = 1", "street 1", "fits 0 = 0");
         edge("(within LIMIT; those beyond are not so", "set 2 1", "see 4 6 0 = 1", "set 1 3", "fits 0 = 0", "fits 1 = -5",
@@ -428,7 +430,7 @@ public final class EdgesOfTermsTest {
                 "middle 1 = 0", "count 0 = 1", "count 1 = 1", "count 2 = 3", "row 0: 5 0", "row 1: 0");
         edge("THE IMAGE: all but", "set 5 7", "quote 0 1", "quote 1 2", "trade 0", "4 x see 4 6 0", "see -4 0 6 = 5",
                 "7 x event 0 1", "event 2 1 = 8", "image = 0", "set 5 8", "quote 0 4", "quote 1 3", "trade 0", "see 0 -1 0",
-                "5 x see 0 6 6", "event -1 0", "8 x event 0 9", "undo = 0", "told 5 = 7", "told 8 = 1", "told 9 = 2",
+                "5 x see 0 5 5", "event -1 0", "8 x event 0 9", "undo = 0", "told 5 = 7", "told 8 = 1", "told 9 = 2",
                 "told 10 = 1", "told 11 = -6993", "middle 0 = " + bits(999.75), "middle 1 = " + bits(0.25), "count 0 = 5",
                 "count 1 = 8", "after = 625000", "set 2 1", "fits 0 = 20", "set 2 0", "fits 0 = 0");
         edge("TAPES 0 .. 5 hold nothing (at first)", "item -1 0 0 = -1", "item 0 0 0 = -11", "item 5 0 0 = -11",

@@ -25,13 +25,20 @@ public final class FaceTest {
         "static {", "hashCode", "equals(Object", "toString(", "package ", "HashMap", "Random", "System.out", "nanoTime",
         "currentTime", "try ", "catch ", "finally", "throw ", "java.lang", "record ", "var ", "+ \"", "\" +"};
 
+    /** What the interface says, and the first and the last call that it says so of. */
+    private static final String[][] HEADINGS = {{"the market", "set", "chance"}, {"the best rule, a told one", "value",
+        "ruled"}, {"floats, doubles", "reserve", "middle"}, {"in truth", "quote", "ticket"}, {"seen, events", "see", "taken"},
+        {"judging, the image, tapes", "judge", "shift"}};
+
     private static final Due DUE = new Due("FaceTest");
 
     public static void main(String[] args) throws IOException {
         face();
         constants();
         inside();
-        source(Files.readString(Path.of("src/main/java/QuoteMind.java")));
+        String source = Files.readString(Path.of("src/main/java/QuoteMind.java"));
+        source(source);
+        headings(source);
         DUE.end();
     }
 
@@ -109,6 +116,21 @@ public final class FaceTest {
             if (source.charAt(i) > 126) {
                 DUE.is("sign at " + i, source.charAt(i), 126);
             }
+        }
+    }
+
+    private static int placeOf(String source, String call) {
+        return Math.max(source.indexOf("    public int " + call + "("), source.indexOf("    public long " + call + "("));
+    }
+
+    private static void headings(String source) {
+        int behind = 0;
+        for (String[] heading : HEADINGS) {
+            int at = source.indexOf("// ---- " + heading[0] + "\n");
+            int first = placeOf(source, heading[1]);
+            int last = placeOf(source, heading[2]);
+            DUE.holds(heading[0] + " stands ahead of its calls alone", behind < at && at < first && first < last);
+            behind = last;
         }
     }
 }
